@@ -129,6 +129,9 @@ public final class PromisesTest {
         due("3 empty text", x.tontine(), 0);
         due("3 no pot", x.year(1), NOT);
         due("3 no life", x.life(0, 0), UNKNOWN);
+        for (int what = 0; what <= 13; what++) {
+            due("3 nothing is left: told(" + what + ")", x.told(what), 0);
+        }
         Check.feedAll(x, "   ");
         due("3 blanks alone", x.tontine(), 0);
         due("3 blanks: no pot", x.drift(1), NOT);
@@ -324,6 +327,10 @@ public final class PromisesTest {
         due("13 full", y.drift(1), FULL);
         due("13 outside goes first", y.drift(31), OUTSIDE);
         due("8 nothing changed", y.told(7), 9030);
+        y.undo();
+        due("8 9001", y.year(1) >= 0 ? y.told(7) : -9, 9001);
+        due("8 9001 are above 9000", y.year(1), FULL);
+        due("13 9001 are above 9000", y.drift(1), FULL);
         due("8 none told", made("p9 9 9 9;").year(1), 0);
     }
 
@@ -379,6 +386,10 @@ public final class PromisesTest {
         due("11 dead", x.harm(0, 0), NOT);
         due("11 unknown s", x.harm(-1, 0), UNKNOWN);
         due("11 unknown l", x.harm(0, -1), UNKNOWN);
+        ParrotTontine y = made(PAIR);
+        y.harm(0, 1);
+        y.harm(0, 0);
+        due("11 both harmed", y.told(10), 3);
         due("11 guarded may be harmed", x.guard(0, 1) >= 0 && x.harm(1, 1) >= 0 ? 1 : 0, 1);
     }
 
@@ -583,6 +594,8 @@ public final class PromisesTest {
         due("18 K is as it was", x.told(1), 7);
         x.died(0);
         due("18 one is left", x.terms(20), 0);
+        ParrotTontine two = made("p9 0 0 0;l0 0;l100 0;s0 0 0;s0 0 1;");
+        due("18 it dies anyway, its holder has nothing to gain", two.terms(20), 0);
         due("18 n 0", x.terms(0), OUTSIDE);
         due("18 n 21", x.terms(21), OUTSIDE);
     }
@@ -608,6 +621,9 @@ public final class PromisesTest {
         due("19 unknown", x.who(-1, 0), UNKNOWN);
         due("19 d 0", made("p9 0 0 0;l0 7;l0 7;s0 7 0;s0 7 1;").who(0, 0), 2);
         due("19 held by nobody", made(FOUR).who(2, 50), 0);
+        String five = "l0 0;l0 0;l0 0;l0 0;l0 0;s0 0 0;s0 1 1;s0 2 2;s0 3 3;s0 50 4;";
+        due("19 all but the holder", made("p99 0 0 0;" + five).who(2, 50), 27);
+        due("19 all but the holder and the far", made("p99 0 0 0;" + five).who(0, 2), 6);
     }
 
     // Promise 20
@@ -634,6 +650,13 @@ public final class PromisesTest {
         ParrotTontine z = made("p10 0 0 0;l100 0;l100 0;s0 0 1;s0 0 0;");
         due("20 nobody gains: the lesser", z.nurse(0, 1), 0);
         due("20 no one twice", z.nurse(1, 1), 1);
+        ParrotTontine w = made("p10 0 0 0;l50 0;l50 0;s0 0 1;s0 0 0;");
+        w.harm(0, 0);
+        w.harm(0, 1);
+        due("20 both die this year: the lesser", w.nurse(0, 1), 0);
+        w.year(1);
+        due("20 behind it each has his own", w.nurse(0, 1), 1);
+        due("20 behind it each has his own", w.nurse(1, 1), 0);
     }
 
     // Promise 21
@@ -700,6 +723,7 @@ public final class PromisesTest {
         ParrotTontine x = made(PAIR);
         due("22 3750 / 1000", x.fair(0, 1), 3);
         due("22 5937 / 1000", x.fair(0, 2), 5);
+        due("22 n 20", made("p999 0 0 0;l0 0;s0 0 0;").fair(0, 20), 19980);
         due("22 n 0", x.fair(0, 0), 0);
         due("22 n -1", x.fair(0, -1), OUTSIDE);
         due("22 n 21", x.fair(0, 21), OUTSIDE);
