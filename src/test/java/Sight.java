@@ -3,6 +3,7 @@ import java.util.List;
 
 /** All that can be seen of an object, so that two of them can be held side by side. */
 final class Sight {
+    private static final int MOST_UNDONE = 20;
     private static final String REST_OF_A_TEXT = " 1 1;l7 8;";
 
     private final List<Integer> seen = new ArrayList<>();
@@ -22,7 +23,7 @@ final class Sight {
         Sight sight = new Sight();
         sight.look(x);
         sight.seen.add(x.seed(1));
-        while (x.undo() >= 0) {
+        for (int i = 0; i <= MOST_UNDONE && x.undo() >= 0; i++) {
             sight.look(x);
         }
         for (int image = 0; image <= 1; image++) {

@@ -17,6 +17,7 @@ public final class TrialEdgesTest {
         worthByWhoHoldsNow();
         gainOfTheDead();
         gainAtNought();
+        gainByACutAlone();
         gainOfAllYears();
         gainersOfEach();
         gainersWithNoOther();
@@ -26,6 +27,7 @@ public final class TrialEdgesTest {
         whoByDistance();
         whoHoldsIt();
         whoOfTheDead();
+        whoInOneYear();
         whoOfNobodys();
         nursesOfNoneAndOfAll();
         nursesNoOneTwice();
@@ -148,6 +150,23 @@ public final class TrialEdgesTest {
         due("no terms are needed", even.terms(1), 0);
     }
 
+    // n 2: to who holds the life of 98 20.4 less 19.79, to the other 30.9 less 30.29: by the cut 1 and 0
+    private static void gainByACutAlone() {
+        String behind = " 0;s0 0 0;s0 0 1;";
+        ParrotTontine first = made("p1 0 0 0;l98 0;l97" + behind);
+        due("98: the first gains", first.gain(0, 1, 2), 1);
+        due("97: the other does not", first.gain(1, 0, 2), 0);
+        due("the first alone", first.gainers(2), 1);
+        due("terms for the first alone", first.terms(2), 10);
+        ParrotTontine other = made("p1 0 0 0;l97 0;l98" + behind);
+        due("97: the first does not", other.gain(0, 1, 2), 0);
+        due("98: the other gains", other.gain(1, 0, 2), 1);
+        due("the other alone", other.gainers(2), 2);
+        due("terms for the other alone", other.terms(2), 10);
+        due("the first nurses his own", other.nurse(0, 2), 0);
+        due("the other his own", other.nurse(1, 2), 1);
+    }
+
     // "n 1 .. 20"
     private static void gainOfAllYears() {
         ParrotTontine x = made("p10 0 0 0;l0 0;l0 0;s0 0 0;s0 0 1;");
@@ -267,12 +286,21 @@ public final class TrialEdgesTest {
         due("of two dead: 2 would have 9 for 4", x.who(0, 50), 4);
         x.died(2);
         due("all are dead: nobody has any share", x.who(0, 50), 0);
-        // of one YEAR alone: the other dies in the second year at the latest
         ParrotTontine first = made("p10 0 0 0;l0 0;l100 0;s0 0 0;s0 0 1;");
         first.guard(0, 1);
         due("it lives by one half: 0 has 7500, else 10000", first.who(1, 50), 1);
         first.year(1);
         due("it dies this year", first.who(1, 50), 0);
+    }
+
+    // "(n 1 ..)": of a POT of 3 two have as much each as three; only if the third dies would one have more
+    private static void whoInOneYear() {
+        ParrotTontine x = made("p3 0 0 0;l0 0;l0 0;l1 0;s0 0 0;s0 0 1;s0 0 2;");
+        due("it may die this year", x.who(0, 50), 2);
+        x.guard(0, 2);
+        due("guarded, not this year", x.life(2, 4), 0);
+        due("then nobody gains in one", x.who(0, 50), 0);
+        due("though in two 1 does, by 1 / 100 of 2000", x.gain(1, 0, 2), 20);
     }
 
     private static void whoOfNobodys() {

@@ -166,6 +166,7 @@ public final class YearsEdgesTest {
         due("no more", x.year(1), MOST_PURSE);
         due("no more by draws", x.drift(1) == 1 ? x.told(11) : NOT, MOST_PURSE);
         due("no more in thirty", x.year(30), MOST_PURSE);
+        due("its pay is as ever", x.subscriber(0, 3), 999);
         due("one less than just that", rich("p998 10 0 0;l0 0;s999 0 0;", 1001).told(11), MOST_PURSE - 2);
         due("one more than just that", rich(paid + "s1 0 0;", 1001).told(11), MOST_PURSE);
         ParrotTontine two = rich("p999 0 9 0;l0 0;l100 0;s0 0 0;s5 0 1;", 1);
