@@ -229,6 +229,9 @@ public final class TrialEdgesTest {
         due("none to gain by", x.terms(20), 0);
         due("one life", made("p999 0 0 0;l0 0;s0 0 0;").terms(20), 0);
         due("nobody's death", made("p999 0 0 0;l0 0;l0 0;s0 0 0;").terms(20), 0);
+        ParrotTontine nobody = made("p999 0 0 0;l0 0;l0 0;l0 0;s0 0 0;");
+        nobody.sell(1, 0, 0);
+        due("who is nobody gains nothing by what the others hold", nobody.terms(20), 0);
     }
 
     private static void termsOfTheLeast() {
