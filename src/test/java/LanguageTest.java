@@ -23,6 +23,11 @@ public final class LanguageTest {
             "assert", "import", "package", "->", "::", "instanceof", "native", "volatile", "transient", "Object",
             "float", "double", "Random", "System.currentTimeMillis", "System.nanoTime", "Thread", "System.out",
             "hashCode", "toString", "equals", "protected", "Exact", "getClass");
+    /** What rule 4 lists of the library's static functions, as far as the class may want them. */
+    private static final List<String> LISTED = List.of("Integer.bitCount", "Integer.compare", "Integer.max",
+            "Integer.min", "Long.bitCount", "Long.compare", "Long.max", "Long.min", "Math.abs", "Math.floorDiv",
+            "Math.floorMod", "Math.max", "Math.min", "System.arraycopy", "Arrays.copyOf", "Arrays.copyOfRange",
+            "Arrays.fill", "List.of");
     private static final Check CHECK = new Check("LanguageTest");
 
     private LanguageTest() {
@@ -106,6 +111,12 @@ public final class LanguageTest {
             Matcher m = Pattern.compile((isName ? "\\b" : "") + Pattern.quote(word) + (isName ? "\\b" : "")).matcher(bare);
             CHECK.due("no '" + word + "'", m.find() ? 1 : 0, 0);
         }
+        Matcher used = Pattern.compile("\\b(Integer|Long|Math|System|Arrays|List|Character|String|Short|Byte"
+                + "|Boolean|Collections|Objects|java)\\s*\\.\\s*\\w+").matcher(bare);
+        while (used.find()) {
+            CHECK.due("4 the library lists " + used.group(), LISTED.contains(used.group()) ? 1 : 0, 1);
+        }
+        CHECK.due("3 signs 1 to 127 alone", source.chars().allMatch(sign -> sign > 0 && sign < 128) ? 1 : 0, 1);
         int longest = 0;
         int lines = 0;
         for (String line : bare.split("\n")) {
